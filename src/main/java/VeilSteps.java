@@ -59,7 +59,6 @@ public final class VeilSteps {
         if (now.kin.count >= MOST_PEOPLE) {
             return fail(FULL);
         }
-        now.course.seen[now.kin.count] = 0;
         return now.kin.add(km / 10, km % 10, parent);
     }
 
