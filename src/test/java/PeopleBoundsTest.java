@@ -118,7 +118,7 @@ public final class PeopleBoundsTest {
         Script.about("promise 7: all seven others", "person(0, -1); person(0, 0); person(0, 0); person(0, 0); person(0, 0); person(0, 0); person(0, 0)",
             "person(0, -1); marries(0, 7) = 7; parts(7) = 0; marries(7, 0) = 1; parts(0) = 7; marries(0, 1) = 6");
         Script.about("promise 8: there is none", LINE, "parts(0) = NONE; marries(0, 1) = 1; parts(1) = 0; parts(1) = NONE; parts(0) = NONE",
-            "marries(0, 7) = 2; parts(0) = 7; parts(7) = NONE; parts(8) = BEYOND; parts(-1) = BEYOND; told(2) = 4");
+            "marries(0, 7) = 2; parts(0) = 7; parts(7) = NONE; parts(8) = BEYOND; parts(-1) = BEYOND; told(2) = 4; personIs(0, 3) = -1; personIs(7, 3) = -1");
     }
 
     private static void kin() {

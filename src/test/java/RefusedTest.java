@@ -10,16 +10,18 @@ public final class RefusedTest {
         + "fill(1, 16, 9, 8, 7, 6, 5, 4, 3, 2, 1); fill(2, 32, 128, 64, 32, 16, 8, 4, 2, 1); ";
     private static final String SINCE =
         "become(2, 31); trade(0, 250); descends(5, 1); parts(6); marries(0, 6); seed(77); year(21); meets(2, 6, 6); "
-        + "feed('v*s+y'); tell(3); tell(9); tell(8); tell(0); voice(4, 2, 7)";
+        + "feed('s+y'); tell(3); tell(9); tell(8); tell(0); voice(4, 2, 7)";
     // Seven of PEOPLE, all rows but SHEET 3, and an IMAGE that is not as all is now.
-    private static final String VILLAGE = KIN + ROWS + "image(); " + SINCE;
+    private static final String VILLAGE = KIN + ROWS + "feed('v*'); tell(2); image(); " + SINCE;
     private static final String EIGHT = VILLAGE + "; person(18, 6)";
-    private static final String NO_IMAGE = KIN + ROWS + SINCE;
+    private static final String NO_IMAGE = KIN + ROWS + "feed('v*'); tell(2); " + SINCE;
     private static final String LAST_YEAR = VILLAGE + "; year(9999)";
     // 5 bytes are there already.
     private static final String TAPE_OF_53 = VILLAGE + "; feed('" + "+1".repeat(24) + "')";
     private static final String TAPE_OF_60 = TAPE_OF_53 + "; feed('+1+1+1*')";
-    private static final String ALONE = "person(0, -1); fill(0, 8, 1); image(); tell(2); voice(0, 2, 1)";
+    private static final String ALONE =
+        "person(5, -1); meets(0, 2, 3); trade(1, 9); text(0, 'v*2-s'); text(1, 'e+y'); " + ROWS + "feed('v'); image(); trade(0, 7); "
+        + "feed('+s'); tell(2); voice(0, 2, 1); fill(3, 8, 1); seenAll(3)";
 
     public static void main(String[] args) {
         people();
@@ -106,7 +108,7 @@ public final class RefusedTest {
         refuses(23, VILLAGE, "NONE", "match(0, 1, 0)", "match(0, 1, 1)", "match(3, 3, 0)");
         refuses(23, VILLAGE, "BEYOND", "match(0, 1, 2)", "match(0, 1, -1)", "match(3, 3, 2)");
         refuses(24, VILLAGE, "BEYOND", "orderFor(-1, 1)", "orderFor(7, 1)", "orderFor(0, -1)", "orderFor(0, 41)");
-        String seenWhatever = VILLAGE + "; seenAll(3); untell(0); untell(1); trade(0, 0); meets(3, 0, 6)";
+        String seenWhatever = VILLAGE + "; trade(0, 0); meets(3, 0, 6)";
         refuses(24, seenWhatever, "NONE", "orderFor(6, 1)", "orderFor(6, 40)");
         refuses(24, seenWhatever, "BEYOND", "orderFor(6, 41)", "orderFor(7, 40)");
         refuses(25, VILLAGE, "BEYOND", "seers(-1)", "seers(7)", "seers(MIN)", "seers(MAX)");
@@ -168,7 +170,7 @@ public final class RefusedTest {
 
     private static void told() {
         refuses(37, NO_IMAGE, "NONE", "restore()");
-        refuses(38, VILLAGE + "; tell(1)".repeat(20), "FULL", "tell(1)", "tell(MIN)");
+        refuses(38, VILLAGE + "; tell(1)".repeat(19), "FULL", "tell(1)", "tell(MIN)");
         refuses(40, VILLAGE, "BEYOND", "count(-1)", "count(9)", "count(MIN)", "count(MAX)");
         refuses(41, VILLAGE, "BEYOND", "told(0)", "told(7)", "told(-1)", "told(MIN)", "told(MAX)");
     }

@@ -207,6 +207,14 @@ public final class TextsBoundsTest {
     }
 
     private static void binds() {
+        Due.about("Term 2: a T within ( ), of any sign");
+        for (String sign : new String[] {"|", "&", "<", "=", ">", "+", "-", "*", "/", "%"}) {
+            Script.of("text(0, '(v" + sign + "s)') = 1; text(0, '!(v" + sign + "s)*(v" + sign + "s)') = 1; law(0, 9, 9, 0) = 0");
+        }
+        gives("(v|s)&y", 1, 0, 0, 0);
+        gives("(v&s)<y", 1, 1, 2, 1);
+        gives("(v<s)+y", 1, 2, 5, 6);
+        gives("!(v|s)", 0, 0, 0, 1);
         Due.about("Term 2: what binds nearer");
         gives("v|s&y", 1, 0, 0, 1);
         gives("v&s|y", 0, 0, 1, 1);

@@ -78,6 +78,8 @@ public final class ThoughtBoundsTest {
         Script.about("Term 3: the lesser number, and the greater", LINE, "match(7, 0, 0) = 7; match(0, 7, 0) = 7; match(7, 0, 1) = 1; match(5, 2, 0) = 25");
         Script.about("Term 3: 2 as it is", LINE, "match(0, 2, 0) = 2; match(0, 2, 1) = 1");
         Script.about("Term 3: one of the two has a SPOUSE", LINE, "marries(0, 1); match(0, 7, 0) = 27; match(0, 7, 1) = 3; match(1, 7, 0) = 27; match(1, 7, 1) = 2");
+        Script.about("Term 3: by 0 and 1, the first of all marriages", "person(0, -1); person(0, -1); person(0, 1); person(0, -1); marries(2, 3); match(0, 2, 0) = 1",
+            "match(0, 2, 1) = 2; match(0, 3, 0) = 1; match(0, 3, 1) = 3; match(0, 1, 0) = 1; match(0, 1, 1) = 1");
         Script.about("Term 3: one fewer than as it is", "person(0, -1); person(0, 0); person(0, 1); person(0, 2); person(0, 3); person(0, -1); marries(0, 5); match(0, 3, 1) = 2",
             "match(0, 3, 0) = 13; marries(3, 4); match(0, 3, 1) = NONE; match(5, 3, 1) = NONE; match(5, 2, 1) = NONE; parts(3); match(5, 3, 1) = 3; match(5, 3, 0) = 13; match(0, 3, 1) = 2; match(0, 3, 0) = 13");
         Script.about("Term 3: one is near to nobody and has a SPOUSE that is so, too", APART, "marries(0, 1); match(0, 7, 0) = NONE; descends(2, 0)",

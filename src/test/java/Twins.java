@@ -51,6 +51,7 @@ final class Twins {
         }
     }
 
+    // What answers an ERROR itself is asked last, so that what an ERROR changes is seen ahead of it.
     private static List<Integer> answersOf(Script x, boolean restored, boolean traced, List<String> calls) {
         List<Integer> answers = new ArrayList<>();
         Asking asking = call -> {
@@ -65,8 +66,17 @@ final class Twins {
         people(asking, x.ask("count(0)"));
         laws(asking);
         rows(asking);
+        for (int i = x.ask("count(0)"); i < EIGHT; i++) {
+            asking.of("person(0, -1)");
+        }
         for (int sheet = 0; sheet < SHEETS; sheet++) {
-            sheet(asking, sheet);
+            numbers(asking, sheet);
+        }
+        for (int sheet = 0; sheet < SHEETS; sheet++) {
+            moreNumbers(asking, sheet);
+        }
+        for (int sheet = 0; sheet < SHEETS; sheet++) {
+            bounds(asking, sheet);
         }
         asking.of("image()");
         return answers;
@@ -84,7 +94,7 @@ final class Twins {
         }
         if (traced) {
             int bodies = asking.of("count(7)");
-            for (int i = 0; i <= bodies; i++) {
+            for (int i = 0; i < bodies; i++) {
                 asking.of("body(" + i + ")");
             }
         }
@@ -119,28 +129,28 @@ final class Twins {
         asking.of("check()");
         asking.of("text(0)");
         asking.of("law(0, 7, 5, 3)");
-        for (int i = 0; i < EIGHT; i++) {
-            asking.of("person(0, -1)");
-        }
-        for (int sheet = 0; sheet < SHEETS; sheet++) {
-            for (int other = 0; other < sheet; other++) {
-                asking.of("move(" + sheet + ", 0, " + other + ", 0, 0)");
-            }
-        }
     }
 
     // Eight numbers are read at once, as whom eight have SEEN.
-    private static void sheet(Asking asking, int sheet) {
+    private static void numbers(Asking asking, int sheet) {
+        asking.of("seenAll(" + sheet + ")");
+        for (int i = 0; i < EIGHT; i++) {
+            asking.of("personIs(" + i + ", 4)");
+        }
+    }
+
+    private static void moreNumbers(Asking asking, int sheet) {
         asking.of("judge(" + sheet + ")");
-        for (int from = 0; from < 24; from += EIGHT) {
-            if (from > 0) {
-                asking.of("move(" + sheet + ", " + from + ", " + sheet + ", 0, 1)");
-                asking.of("move(" + sheet + ", " + from + ", " + sheet + ", 0, 8)");
-            }
-            asking.of("seenAll(" + sheet + ")");
-            for (int i = 0; i < EIGHT; i++) {
-                asking.of("personIs(" + i + ", 4)");
-            }
+        for (int from = EIGHT; from < 24; from += EIGHT) {
+            asking.of("move(" + sheet + ", " + from + ", " + sheet + ", 0, 1)");
+            asking.of("move(" + sheet + ", " + from + ", " + sheet + ", 0, 8)");
+            numbers(asking, sheet);
+        }
+    }
+
+    private static void bounds(Asking asking, int sheet) {
+        for (int other = 0; other < sheet; other++) {
+            asking.of("move(" + sheet + ", 0, " + other + ", 0, 0)");
         }
         for (int i = EIGHT; i < 11; i++) {
             asking.of("put(" + sheet + ", " + i + ", 0)");
