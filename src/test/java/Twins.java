@@ -7,6 +7,8 @@ final class Twins {
     private static final int LOW = -1000000000;
     private static final int ERRORS = 6;
     private static final int SHEETS = 4;
+    // The one that scenes leave out, so that it errs itself.
+    private static final int MISSING = 3;
     private static final int EIGHT = 8;
 
     private Twins() {
@@ -69,12 +71,14 @@ final class Twins {
         for (int i = x.ask("count(0)"); i < EIGHT; i++) {
             asking.of("person(0, -1)");
         }
-        for (int sheet = 0; sheet < SHEETS; sheet++) {
+        for (int sheet = 0; sheet < MISSING; sheet++) {
             numbers(asking, sheet);
         }
-        for (int sheet = 0; sheet < SHEETS; sheet++) {
+        for (int sheet = 0; sheet < MISSING; sheet++) {
             moreNumbers(asking, sheet);
         }
+        numbers(asking, MISSING);
+        moreNumbers(asking, MISSING);
         for (int sheet = 0; sheet < SHEETS; sheet++) {
             bounds(asking, sheet);
         }
