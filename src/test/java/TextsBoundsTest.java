@@ -188,16 +188,17 @@ public final class TextsBoundsTest {
 
     private static void truth() {
         Due.about("Term 2: | & < = > ! are 1 or 0, what is not 0 being true");
+        // 5 more, since what is held would hide a -1 in place of 0.
         int[] some = {0, 1, -1, 2, MIN, MAX};
         for (int a : some) {
-            gives("!v", a, 0, 0, a == 0 ? 1 : 0);
-            gives("!!v", a, 0, 0, a == 0 ? 0 : 1);
+            gives("5+!v", a, 0, 0, 5 + (a == 0 ? 1 : 0));
+            gives("5+!!v", a, 0, 0, 5 + (a == 0 ? 0 : 1));
             for (int b : some) {
-                gives("v|s", a, b, 0, a != 0 || b != 0 ? 1 : 0);
-                gives("v&s", a, b, 0, a != 0 && b != 0 ? 1 : 0);
-                gives("v<s", a, b, 0, a < b ? 1 : 0);
-                gives("v=s", a, b, 0, a == b ? 1 : 0);
-                gives("v>s", a, b, 0, a > b ? 1 : 0);
+                gives("5+(v|s)", a, b, 0, 5 + (a != 0 || b != 0 ? 1 : 0));
+                gives("5+(v&s)", a, b, 0, 5 + (a != 0 && b != 0 ? 1 : 0));
+                gives("5+(v<s)", a, b, 0, 5 + (a < b ? 1 : 0));
+                gives("5+(v=s)", a, b, 0, 5 + (a == b ? 1 : 0));
+                gives("5+(v>s)", a, b, 0, 5 + (a > b ? 1 : 0));
             }
         }
         Due.about("Term 2: all is worked out");
